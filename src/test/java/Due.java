@@ -20,8 +20,17 @@ final class Due {
         calls++;
         if (!got.equals(want)) {
             wrong++;
-            System.out.println(what + " answered\n  " + got + "\ndue is\n  " + want);
+            int same = 0;
+            while (same < got.length() && same < want.length() && got.charAt(same) == want.charAt(same)) {
+                same++;
+            }
+            System.out.println(what + " answered, from character " + same + " on, " + someFrom(got, same)
+                + ", due is " + someFrom(want, same));
         }
+    }
+
+    private static String someFrom(String text, int from) {
+        return text.substring(from, Math.min(text.length(), from + 80));
     }
 
     /** Ends the test: with exit code 1 if an answer was wrong. */
@@ -30,10 +39,6 @@ final class Due {
         if (wrong != 0) {
             System.exit(1);
         }
-    }
-
-    static boolean isAnyWrong() {
-        return wrong != 0;
     }
 
     /** Feeds the name's characters, 0 to 255, as bytes. */
