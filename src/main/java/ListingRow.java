@@ -196,7 +196,10 @@ public final class ListingRow {
         int length = tape.useUp();
         passedEntries = 0;
         int entries = judge.entriesIfRight();
-        walk.goTo(entries > 0 ? listing.placeToLookFrom(tape.row, length) : 0);
+        if (entries == NONE) {
+            return NONE;
+        }
+        walk.goTo(listing.placeToLookFrom(tape.row, length));
         for (int n = 0; n < entries && walk.step(); n++) {
             passedEntries++;
             int order = walk.compareNameWith(tape.row, 0, length);
@@ -405,14 +408,14 @@ public final class ListingRow {
 
     /** Where headers and entries go in a listing that is being made. */
     private static final class Layout {
-        private int begin = 0;
-        private int headerStart = 0;
-        int end = 0;
-        int headerAt = 0;
-        int headerNumber = 0;
+        private int begin;
+        private int headerStart;
+        int end;
+        int headerAt;
+        int headerNumber;
         /** 0 only while there is no header. */
-        int headerEntries = 0;
-        int entryAt = 0;
+        int headerEntries;
+        int entryAt;
 
         void restart(int newBegin) {
             begin = newBegin;
@@ -557,7 +560,8 @@ public final class ListingRow {
         }
 
         long u4(int at) {
-            return u2(at) | (long) u2(at + 2) << 16;
+            return byteOrZero(at) | byteOrZero(at + 1) << 8 | byteOrZero(at + 2) << 16
+                | (long) byteOrZero(at + 3) << 24;
         }
 
         private void putU2(int at, int value) {
@@ -574,17 +578,17 @@ public final class ListingRow {
     /** Goes through the entries of bytes that may be a listing, from any header on. */
     private static final class Walk {
         private final Listing listing;
-        private int end = 0;
-        private int entriesLeft = 0;
-        private long headerNumber = 0;
-        int headerAt = 0;
-        boolean isFirst = false;
-        long number = 0;
-        long start = 0;
-        int place = 0;
-        int kind = 0;
-        int nameAt = 0;
-        int nameLength = 0;
+        private int end;
+        private int entriesLeft;
+        private long headerNumber;
+        int headerAt;
+        boolean isFirst;
+        long number;
+        long start;
+        int place;
+        int kind;
+        int nameAt;
+        int nameLength;
 
         Walk(Listing listing) {
             this.listing = listing;

@@ -300,6 +300,16 @@ public final class PromisesTest {
         due("6 headers", x.size(1), 2);
         due("6 the first header's count", x.bytes(0), 255);
         due("6 check", x.check(), 257);
+        // The last entry moves under the first header, which now tells one entry too many.
+        int second = 12 + 256 * 13;
+        String entry = "0000" + "0001" + "0100" + "0000" + "6f";
+        for (int i = 0; i < 9; i++) {
+            x.patch(second + i, Integer.parseInt(entry.substring(2 * i, 2 * i + 2), 16));
+        }
+        x.patch(0, 0);
+        x.patch(1, 1);
+        x.cut(second + 9);
+        due("13 check of a header with 257 entries", x.check(), NONE);
     }
 
     private static void promise6MakePieces() {
