@@ -4,15 +4,21 @@ import java.nio.charset.StandardCharsets;
 final class Due {
     private static int calls = 0;
     private static int wrong = 0;
+    private static String sentence = "";
 
     private Due() {
+    }
+
+    /** From here on, wrong answers are told with the words of the document that they break. */
+    static void sentence(String where, String words) {
+        sentence = "[" + where + ": \"" + words + "\"] ";
     }
 
     static void due(String what, long got, long want) {
         calls++;
         if (got != want) {
             wrong++;
-            System.out.println(what + " answered " + got + ", due is " + want);
+            System.out.println(sentence + what + " answered " + got + ", due is " + want);
         }
     }
 
@@ -24,7 +30,7 @@ final class Due {
             while (same < got.length() && same < want.length() && got.charAt(same) == want.charAt(same)) {
                 same++;
             }
-            System.out.println(what + " answered, from character " + same + " on, " + someFrom(got, same)
+            System.out.println(sentence + what + " answered, from character " + same + " on, " + someFrom(got, same)
                 + ", due is " + someFrom(want, same));
         }
     }

@@ -14,15 +14,13 @@ public final class PromisesTest {
         promise3AddNames();
         promise3AddNumbers();
         promise3AddUsesTheTapeUp();
-        promise3AddLimits();
         promise3AddMakesKnown();
         promise4Drop();
         promise5Clear();
         promise6MakeOrder();
         promise6MakeHeaders();
-        promise6MakeHeaderOf256();
         promise6MakePieces();
-        promise6MakeBeginAndFull();
+        promise6MakeBegin();
         promise7Size();
         promise8Bytes();
         promise9Index();
@@ -34,7 +32,6 @@ public final class PromisesTest {
         promise13CheckLongName();
         promise13CheckKnown();
         promise13CheckIndexes();
-        promise13CheckSeveralIndexes();
         promise14Entry();
         promise15FindAnd16Passed();
         promise15FindFromIndexes();
@@ -144,28 +141,6 @@ public final class PromisesTest {
         due("3 add of the tape alone", x.add(1, 0, 0, 1), 2);
         due("3 BAD by the name", Due.add(x, "..", 1, 0, 0, 1), BAD);
         due("3 no tape after a BAD name", x.feed(100, 1), 1);
-    }
-
-    /** No 512 calls reach these limits; the object keeps them all the same. */
-    private static void promise3AddLimits() {
-        ListingRow x = new ListingRow();
-        for (int i = 0; i < 600; i++) {
-            due("3 add", Due.add(x, "n" + i, 1 + i % 7, 0, 0, 1), i + 1);
-        }
-        due("3 THERE comes before FULL", Due.add(x, "n5", 1, 0, 0, 1), THERE);
-        due("3 add of the 601st", Due.add(x, "o", 1, 0, 0, 1), FULL);
-        due("3 no tape after FULL", x.drop(), BAD);
-        Due.drop(x, "n7");
-        due("3 add of the 600th", Due.add(x, "o", 1, 0, 0, 1), 600);
-        ListingRow y = new ListingRow();
-        for (int i = 0; i < 1500; i++) {
-            due("3 add", Due.add(y, "n", 100000 - i, 0, 0, 1), 1);
-            y.clear();
-        }
-        due("3 the 1501st number", Due.add(y, "n", 1, 0, 0, 1), FULL);
-        due("3 one behind", Due.add(y, "n", 98500, 0, 0, 1), FULL);
-        due("3 a number that is known", Due.add(y, "n", 98501, 0, 0, 1), 1);
-        due("3 another one", Due.add(y, "m", 100000, 0, 0, 1), 2);
     }
 
     private static void promise3AddMakesKnown() {
@@ -285,33 +260,6 @@ public final class PromisesTest {
             + "0000" + "0000" + "0100" + "0000" + "63");
     }
 
-    /** No 512 calls add so many entries; the listing is made by the same words all the same. */
-    private static void promise6MakeHeaderOf256() {
-        ListingRow x = new ListingRow();
-        for (int i = 0; i < 256; i++) {
-            Due.add(x, "n" + (1000 + i), 1 + i, 0, 0, 1);
-        }
-        due("6 make of 256", x.make(0), 12 + 256 * 13);
-        due("6 headers", x.size(1), 1);
-        due("6 the header's count", x.bytes(0), 255);
-        due("6 check", x.check(), 256);
-        Due.add(x, "o", 257, 0, 0, 1);
-        due("6 make of 257", x.make(0), 12 + 256 * 13 + 21);
-        due("6 headers", x.size(1), 2);
-        due("6 the first header's count", x.bytes(0), 255);
-        due("6 check", x.check(), 257);
-        // The last entry moves under the first header, which now tells one entry too many.
-        int second = 12 + 256 * 13;
-        String entry = "0000" + "0001" + "0100" + "0000" + "6f";
-        for (int i = 0; i < 9; i++) {
-            x.patch(second + i, Integer.parseInt(entry.substring(2 * i, 2 * i + 2), 16));
-        }
-        x.patch(0, 0);
-        x.patch(1, 1);
-        x.cut(second + 9);
-        due("13 check of a header with 257 entries", x.check(), NONE);
-    }
-
     private static void promise6MakePieces() {
         ListingRow x = new ListingRow();
         Due.add(x, "a", 1, 0, 0, 1);
@@ -348,7 +296,7 @@ public final class PromisesTest {
         due(what + " check", x.check(), 3);
     }
 
-    private static void promise6MakeBeginAndFull() {
+    private static void promise6MakeBegin() {
         ListingRow x = new ListingRow();
         Due.add(x, "a", 1, 0, 0, 1);
         due("6 make(40000)", x.make(40000), 21);
@@ -356,26 +304,6 @@ public final class PromisesTest {
             due("6 make of a bad begin", x.make(begin), BAD);
         }
         due("6 begin after BAD", x.size(3), 40000);
-        for (int i = 0; i < 235; i++) {
-            Due.add(x, Due.repeat('b', 253) + (100 + i), 1, (i + 1) % 2, 0, 1);
-        }
-        due("6 bytes of 236 headers", x.make(3), 21 + 235 * 276);
-        due("6 headers", x.size(1), 236);
-        due("6 indexes", x.size(2), 7);
-        // The 655 bytes that are left are three headers with an entry each, of names of 256, 256 and 83 bytes.
-        Due.add(x, "c" + Due.repeat('x', 255), 1, 0, 0, 1);
-        Due.add(x, "d" + Due.repeat('x', 255), 1, 1, 0, 1);
-        Due.add(x, "e" + Due.repeat('x', 82), 1, 0, 0, 1);
-        due("6 make of the most bytes", x.make(5), 65536);
-        String before = Due.hex(x);
-        Due.drop(x, "e" + Due.repeat('x', 82));
-        Due.add(x, "e" + Due.repeat('x', 83), 1, 0, 0, 1);
-        due("6 make of one more", x.make(6), FULL);
-        due("6 FULL leaves the bytes' count", x.size(0), 65536);
-        due("6 FULL leaves the headers", x.size(1), 239);
-        due("6 FULL leaves the begin", x.size(3), 5);
-        Due.due("6 FULL leaves the bytes", Due.hex(x), before);
-        due("6 make after FULL", Due.drop(x, "a") + x.make(7), 238 + 65537 - 21);
     }
 
     private static void promise7Size() {
@@ -526,23 +454,8 @@ public final class PromisesTest {
         due("12 its bytes", x.index(0, 2), 1);
     }
 
-    private static final String HEADER = "00000000" + "05000000" + "0a000000";
-    private static final String ENTRY = "0700" + "0000" + "0300" + "0000";
-
-    /** A row that knows number 10 (start 5, place 7, kind 3), with the given bytes as its listing. */
-    private static ListingRow listed(String hex) {
-        ListingRow x = new ListingRow();
-        Due.add(x, Due.repeat('n', 180), 10, 5, 7, 3);
-        x.make(0);
-        for (int i = 0; i < hex.length() / 2; i++) {
-            x.patch(i, Integer.parseInt(hex.substring(2 * i, 2 * i + 2), 16));
-        }
-        x.cut(hex.length() / 2);
-        return x;
-    }
-
     private static void dueCheck(String what, String hex, int want) {
-        ListingRow x = listed(hex);
+        ListingRow x = Rows.listed(hex);
         due("13 " + what, x.check(), want);
         due("13 " + what + ", asked again", x.check(), want);
         due("13 " + what + ", first entry", x.entry(0, 0), want > 0 ? 10 : NONE);
@@ -550,53 +463,53 @@ public final class PromisesTest {
     }
 
     private static void promise13CheckShape() {
-        String two = "01" + HEADER.substring(2);
+        String two = "01" + Rows.HEADER.substring(2);
         dueCheck("no bytes", "", 0);
-        dueCheck("an entry", HEADER + ENTRY + "61", 1);
-        dueCheck("two entries", two + ENTRY + "61" + ENTRY + "62", 2);
-        dueCheck("two headers", HEADER + ENTRY + "61" + HEADER + ENTRY + "62", 2);
-        dueCheck("two headers, 3 entries", two + ENTRY + "61" + ENTRY + "62" + HEADER + ENTRY + "63", 3);
-        dueCheck("a header alone", HEADER, NONE);
+        dueCheck("an entry", Rows.HEADER + Rows.ENTRY + "61", 1);
+        dueCheck("two entries", two + Rows.ENTRY + "61" + Rows.ENTRY + "62", 2);
+        dueCheck("two headers", Rows.HEADER + Rows.ENTRY + "61" + Rows.HEADER + Rows.ENTRY + "62", 2);
+        dueCheck("two headers, 3 entries", two + Rows.ENTRY + "61" + Rows.ENTRY + "62" + Rows.HEADER + Rows.ENTRY + "63", 3);
+        dueCheck("a header alone", Rows.HEADER, NONE);
         dueCheck("a byte", "00", NONE);
-        dueCheck("11 bytes of a header", HEADER.substring(2), NONE);
-        dueCheck("no name", HEADER + ENTRY, NONE);
-        dueCheck("7 bytes of an entry", HEADER + ENTRY.substring(2), NONE);
-        dueCheck("less of a name", HEADER + "07000000" + "03000100" + "61", NONE);
-        dueCheck("a name of two", HEADER + "07000000" + "03000100" + "6161", 1);
-        dueCheck("a byte too much", HEADER + ENTRY + "61" + "00", NONE);
-        dueCheck("a header at the end", HEADER + ENTRY + "61" + HEADER, NONE);
-        dueCheck("an entry too much", HEADER + ENTRY + "61" + ENTRY + "62", NONE);
-        dueCheck("an entry too few", two + ENTRY + "61", NONE);
-        dueCheck("an entry too few before a header", two + ENTRY + "61" + HEADER + ENTRY + "62", NONE);
+        dueCheck("11 bytes of a header", Rows.HEADER.substring(2), NONE);
+        dueCheck("no name", Rows.HEADER + Rows.ENTRY, NONE);
+        dueCheck("7 bytes of an entry", Rows.HEADER + Rows.ENTRY.substring(2), NONE);
+        dueCheck("less of a name", Rows.HEADER + "07000000" + "03000100" + "61", NONE);
+        dueCheck("a name of two", Rows.HEADER + "07000000" + "03000100" + "6161", 1);
+        dueCheck("a byte too much", Rows.HEADER + Rows.ENTRY + "61" + "00", NONE);
+        dueCheck("a header at the end", Rows.HEADER + Rows.ENTRY + "61" + Rows.HEADER, NONE);
+        dueCheck("an entry too much", Rows.HEADER + Rows.ENTRY + "61" + Rows.ENTRY + "62", NONE);
+        dueCheck("an entry too few", two + Rows.ENTRY + "61", NONE);
+        dueCheck("an entry too few before a header", two + Rows.ENTRY + "61" + Rows.HEADER + Rows.ENTRY + "62", NONE);
         for (String count : new String[] {"00010000", "00000100", "00000001", "ffffffff", "00000080"}) {
-            dueCheck("a count " + count, count + HEADER.substring(8) + ENTRY + "61", NONE);
+            dueCheck("a count " + count, count + Rows.HEADER.substring(8) + Rows.ENTRY + "61", NONE);
         }
     }
 
     private static void promise13CheckNames() {
-        String two = "01" + HEADER.substring(2);
+        String two = "01" + Rows.HEADER.substring(2);
         for (String byteOfNone : new String[] {"00", "2f", "2e"}) {
-            dueCheck("a name " + byteOfNone, HEADER + ENTRY + byteOfNone, NONE);
+            dueCheck("a name " + byteOfNone, Rows.HEADER + Rows.ENTRY + byteOfNone, NONE);
         }
         for (String byteOfOne : new String[] {"01", "2d", "30", "7f", "80", "ae", "af", "ff"}) {
-            dueCheck("a name " + byteOfOne, HEADER + ENTRY + byteOfOne, 1);
+            dueCheck("a name " + byteOfOne, Rows.HEADER + Rows.ENTRY + byteOfOne, 1);
         }
         String entryOfTwo = "07000000" + "03000100";
         for (String bad : new String[] {"2e2e", "6100", "0061", "2f61", "612f"}) {
-            dueCheck("a name " + bad, HEADER + entryOfTwo + bad, NONE);
+            dueCheck("a name " + bad, Rows.HEADER + entryOfTwo + bad, NONE);
         }
-        dueCheck("a name 2e61", HEADER + entryOfTwo + "2e61", 1);
-        dueCheck("a name 612e", HEADER + entryOfTwo + "612e", 1);
-        dueCheck("a name 2e2e2e", HEADER + "07000000" + "03000200" + "2e2e2e", 1);
-        dueCheck("a name twice", two + ENTRY + "61" + ENTRY + "61", NONE);
-        dueCheck("names not in order", two + ENTRY + "62" + ENTRY + "61", NONE);
-        dueCheck("names without a sign", two + ENTRY + "7f" + ENTRY + "80", 2);
-        dueCheck("names with a sign", two + ENTRY + "80" + ENTRY + "7f", NONE);
-        dueCheck("a beginning first", two + ENTRY + "61" + entryOfTwo + "6101", 2);
-        dueCheck("a beginning behind", two + entryOfTwo + "6101" + ENTRY + "61", NONE);
-        dueCheck("a shorter name behind", two + entryOfTwo + "6161" + ENTRY + "62", 2);
-        dueCheck("a name twice over headers", HEADER + ENTRY + "61" + HEADER + ENTRY + "61", NONE);
-        dueCheck("names not in order over headers", HEADER + ENTRY + "62" + HEADER + ENTRY + "61", NONE);
+        dueCheck("a name 2e61", Rows.HEADER + entryOfTwo + "2e61", 1);
+        dueCheck("a name 612e", Rows.HEADER + entryOfTwo + "612e", 1);
+        dueCheck("a name 2e2e2e", Rows.HEADER + "07000000" + "03000200" + "2e2e2e", 1);
+        dueCheck("a name twice", two + Rows.ENTRY + "61" + Rows.ENTRY + "61", NONE);
+        dueCheck("names not in order", two + Rows.ENTRY + "62" + Rows.ENTRY + "61", NONE);
+        dueCheck("names without a sign", two + Rows.ENTRY + "7f" + Rows.ENTRY + "80", 2);
+        dueCheck("names with a sign", two + Rows.ENTRY + "80" + Rows.ENTRY + "7f", NONE);
+        dueCheck("a beginning first", two + Rows.ENTRY + "61" + entryOfTwo + "6101", 2);
+        dueCheck("a beginning behind", two + entryOfTwo + "6101" + Rows.ENTRY + "61", NONE);
+        dueCheck("a shorter name behind", two + entryOfTwo + "6161" + Rows.ENTRY + "62", 2);
+        dueCheck("a name twice over headers", Rows.HEADER + Rows.ENTRY + "61" + Rows.HEADER + Rows.ENTRY + "61", NONE);
+        dueCheck("names not in order over headers", Rows.HEADER + Rows.ENTRY + "62" + Rows.HEADER + Rows.ENTRY + "61", NONE);
     }
 
     private static void promise13CheckLongName() {
@@ -634,28 +547,18 @@ public final class PromisesTest {
         dueCheck("number 0", numbers("00000000", "0000"), NONE);
         dueCheck("a number that is not known", numbers("0b000000", "0000"), NONE);
         dueCheck("number 100001", numbers("a1860100", "0000"), NONE);
-        dueCheck("another start", "00000000" + "06000000" + "0a000000" + ENTRY + "61", NONE);
-        dueCheck("a start too high", "00000000" + "05000100" + "0a000000" + ENTRY + "61", NONE);
-        dueCheck("a start of 2^31 more", "00000000" + "05000080" + "0a000000" + ENTRY + "61", NONE);
-        dueCheck("another place", HEADER + "0600" + "0000" + "0300" + "0000" + "61", NONE);
-        dueCheck("a place too high", HEADER + "0780" + "0000" + "0300" + "0000" + "61", NONE);
-        dueCheck("another kind", HEADER + "0700" + "0000" + "0200" + "0000" + "61", NONE);
-        dueCheck("a kind too high", HEADER + "0700" + "0000" + "0301" + "0000" + "61", NONE);
-        dueCheck("the second entry's place", "01" + HEADER.substring(2) + ENTRY + "61" + "00" + ENTRY.substring(2) + "62", NONE);
-    }
-
-    /** Headers at 0, 21 and 42, with names a, b and c; the last two begin in another piece. */
-    private static ListingRow threeHeaders() {
-        ListingRow x = new ListingRow();
-        Due.add(x, "a", 1, 0, 0, 1);
-        Due.add(x, "b", 2, 1, 0, 1);
-        Due.add(x, "c", 3, 2, 0, 1);
-        due("13 make", x.make(8192 - 21), 63);
-        return x;
+        dueCheck("another start", "00000000" + "06000000" + "0a000000" + Rows.ENTRY + "61", NONE);
+        dueCheck("a start too high", "00000000" + "05000100" + "0a000000" + Rows.ENTRY + "61", NONE);
+        dueCheck("a start of 2^31 more", "00000000" + "05000080" + "0a000000" + Rows.ENTRY + "61", NONE);
+        dueCheck("another place", Rows.HEADER + "0600" + "0000" + "0300" + "0000" + "61", NONE);
+        dueCheck("a place too high", Rows.HEADER + "0780" + "0000" + "0300" + "0000" + "61", NONE);
+        dueCheck("another kind", Rows.HEADER + "0700" + "0000" + "0200" + "0000" + "61", NONE);
+        dueCheck("a kind too high", Rows.HEADER + "0700" + "0000" + "0301" + "0000" + "61", NONE);
+        dueCheck("the second entry's place", "01" + Rows.HEADER.substring(2) + Rows.ENTRY + "61" + "00" + Rows.ENTRY.substring(2) + "62", NONE);
     }
 
     private static void dueCheckWithIndex(String what, int place, int start, String name, int want) {
-        ListingRow x = threeHeaders();
+        ListingRow x = Rows.threeHeaders();
         due("13 check before " + what, x.check(), 3);
         due("13 set of " + what, Due.set(x, 0, place, start, name), 0);
         due("13 check with " + what, x.check(), want);
@@ -676,7 +579,7 @@ public final class PromisesTest {
         dueCheckWithIndex("another name", 21, 8194, "c", NONE);
         dueCheckWithIndex("a longer name", 21, 8194, "bb", NONE);
         dueCheckWithIndex("a name of the header before", 42, 8194, "b", NONE);
-        ListingRow x = threeHeaders();
+        ListingRow x = Rows.threeHeaders();
         x.cut(42);
         due("13 check with less entries", x.check(), 2);
         x.cut(21);
@@ -684,41 +587,11 @@ public final class PromisesTest {
         x.cut(0);
         due("13 check without bytes, with an index", x.check(), NONE);
         due("13 entry of it", x.entry(0, 0), NONE);
-        ListingRow y = threeHeaders();
+        ListingRow y = Rows.threeHeaders();
         y.patch(41, 'B');
         due("13 check of another first name", y.check(), NONE);
         y.patch(41, 'b');
         due("13 check as it was", y.check(), 3);
-    }
-
-    /** Three pieces have more bytes than 512 calls can make; several indexes are as the words say all the same. */
-    private static ListingRow manyPieces() {
-        ListingRow x = new ListingRow();
-        for (int i = 0; i < 90; i++) {
-            Due.add(x, Due.repeat('m', 253) + (100 + i), 1 + i, 0, 0, 1);
-        }
-        x.make(0);
-        return x;
-    }
-
-    private static void promise13CheckSeveralIndexes() {
-        ListingRow x = manyPieces();
-        due("13 indexes", x.size(2), 2);
-        due("13 check", x.check(), 90);
-        int[] place = {x.index(0, 0), x.index(1, 0)};
-        // Behind a header at the first place of a piece, or soon behind it, 31 entries begin in the piece.
-        due("13 first place", place[0], 12 + 31 * 264);
-        due("13 second place", place[1], 2 * (12 + 31 * 264));
-        due("13 starts", x.index(0, 1) * 100000L + x.index(1, 1), 8194 * 100000L + 2 * 8194);
-        String[] name = {Due.repeat('m', 253) + 131, Due.repeat('m', 253) + 162};
-        Due.set(x, 1, place[0], 8194, name[0]);
-        due("13 check with an index twice", x.check(), NONE);
-        Due.set(x, 0, place[1], 2 * 8194, name[1]);
-        due("13 check with indexes that fall", x.check(), NONE);
-        Due.set(x, 1, place[1], 2 * 8194, name[1]);
-        due("13 check with the latter twice", x.check(), NONE);
-        Due.set(x, 0, place[0], 8194, name[0]);
-        due("13 check as it was", x.check(), 90);
     }
 
     private static void promise14Entry() {
@@ -797,7 +670,7 @@ public final class PromisesTest {
     }
 
     private static void promise15FindFromIndexes() {
-        ListingRow x = threeHeaders();
+        ListingRow x = Rows.threeHeaders();
         dueFind(x, "a", 1, 1);
         dueFind(x, "az", NONE, 2);
         dueFind(x, "b", 2, 1);
@@ -810,13 +683,5 @@ public final class PromisesTest {
         dueFind(x, "bz", NONE, 3);
         dueFind(x, "c", 3, 1);
         dueFind(x, "d", NONE, 1);
-        ListingRow y = manyPieces();
-        String begin = Due.repeat('m', 253);
-        dueFind(y, begin + 130, 31, 31);
-        dueFind(y, begin + 131, 32, 1);
-        dueFind(y, begin + 161, 62, 31);
-        dueFind(y, begin + 161 + "x", NONE, 32);
-        dueFind(y, begin + 162, 63, 1);
-        dueFind(y, "n", NONE, 28);
     }
 }
