@@ -80,23 +80,36 @@ public final class BeyondCallsTest {
 
     private static void right_headerTells256Entries() {
         Due.sentence("Terms", "u4 the entries that follow, less 1 (0 .. 255)");
-        ListingRow x = of256();
-        Due.add(x, "o", 257, 0, 0, 1);
-        x.make(0);
-        // The last entry moves under the first header, which now tells one entry too many.
-        int second = 12 + 256 * 13;
-        String entry = "0000" + "0001" + "0100" + "0000" + "6f";
-        for (int i = 0; i < 9; i++) {
-            x.patch(second + i, Integer.parseInt(entry.substring(2 * i, 2 * i + 2), 16));
+        for (int more : new int[] {1, 2, 256}) {
+            ListingRow x = of256();
+            for (int i = 0; i < more; i++) {
+                Due.add(x, "o" + (1000 + i), 257 + i, 0, 0, 1);
+            }
+            x.make(0);
+            due("check of two headers", x.check(), 256 + more);
+            moveUnderFirstHeader(x, more);
+            due("check of a header with " + (256 + more) + " entries", x.check(), NONE);
+            x.patch(0, 255);
+            x.patch(1, 0);
+            x.cut(12 + 256 * 13);
+            due("check of a header with 256 entries", x.check(), 256);
         }
-        x.patch(0, 0);
-        x.patch(1, 1);
-        x.cut(second + 9);
-        due("check of a header with 257 entries", x.check(), NONE);
-        x.patch(0, 255);
-        x.patch(1, 0);
-        x.cut(second);
-        due("check of a header with 256 entries", x.check(), 256);
+    }
+
+    /** The entries behind the second header move before it, and it goes: the first one tells too many. */
+    private static void moveUnderFirstHeader(ListingRow x, int more) {
+        int second = 12 + 256 * 13;
+        String entries = Due.hex(x).substring(2 * (second + 12));
+        for (int i = 0; i < more * 13; i++) {
+            x.patch(second + i, Integer.parseInt(entries.substring(2 * i, 2 * i + 2), 16));
+        }
+        for (int i = 0; i < more; i++) {
+            // They tell their numbers from the second header's on, which was 256 more.
+            x.patch(second + 13 * i + 3, i / 256 + 1);
+        }
+        x.patch(0, 255 + more);
+        x.patch(1, (255 + more) / 256);
+        x.cut(second + more * 13);
     }
 
     /** Entries of all the bytes that a listing may have, the last one's name being of the given length. */
