@@ -63,7 +63,10 @@ public final class ModelTest {
 
         private void due(String call, long got, long want) {
             callsLeft--;
-            Due.due("run " + seed + ", " + callsLeft + " calls before its end: " + call, got, want);
+            // Answers after an object's 512th call are free; only long runs reach the limits that lie there.
+            if (isLong || callsLeft >= 0) {
+                Due.due("run " + seed + ", " + callsLeft + " calls before its end: " + call, got, want);
+            }
         }
 
         private void oneStep() {
